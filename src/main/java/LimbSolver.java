@@ -463,6 +463,7 @@ public final class LimbSolver {
         }
     }
 
+    /** The greatest common divisor of two numbers from 0 on. */
     private static long commonDivisor(long a, long b) {
         long greater = a;
         long lesser = b;
@@ -509,7 +510,8 @@ public final class LimbSolver {
                 quotient.words[at] = digit;
             }
             quotient.trim(digits);
-            shiftDown(length, shift, rest);
+            shiftDown(length, shift, rest.words);
+            rest.trim(length);
         }
 
         private static void shiftUp(Whole from, int shift, int[] into) {
@@ -525,12 +527,11 @@ public final class LimbSolver {
             into[from.count] = (int) carry;
         }
 
-        private void shiftDown(int length, int shift, Whole rest) {
-            for (int i = 0; i < length; i++) {
+        private void shiftDown(int length, int shift, int[] into) {
+            for (int i = 0; i < length && i < into.length; i++) {
                 long above = i + 1 < length ? dividend[i + 1] : 0;
-                rest.words[i] = (int) (((above << WORD_BITS) | dividend[i]) >>> shift) & WORD_MASK;
+                into[i] = (int) (((above << WORD_BITS) | dividend[i]) >>> shift) & WORD_MASK;
             }
-            rest.trim(length);
         }
 
         /** The digit of the quotient at a place, or 1 more. */
@@ -1017,7 +1018,7 @@ public final class LimbSolver {
             return plus.against(minus) == 0;
         }
 
-        /** What is above 0 is gathered in plus, what is below 0 in minus: their difference is the sum. */
+        /** Gathers what is above 0 in plus and what is below 0 in minus: they differ by the sum. */
         private void addProduct(Entry a, Entry b, int sign) {
             bottom.multiply(a.amount, b.amount);
             if (sign * a.sign * b.sign > 0) {

@@ -344,7 +344,7 @@ public final class PromiseTest {
         for (int q : none) {
             CHECK.due("14: " + q + " won't do", () -> x.modulo(q), -1);
         }
-        CHECK.due("14: 215 * 215 is no prime", () -> x.modulo(211 * 211), -1);
+        CHECK.due("14: 211 * 211 is no prime", () -> x.modulo(211 * 211), -1);
         x.right(0, 1, 7);
         CHECK.due("14: right sides don't count", () -> x.modulo(7), 1);
         x.set(0, 0, 1, 7);
