@@ -351,11 +351,6 @@ public final class LimbSolver {
             amount = new Whole(room);
             sign = 0;
         }
-
-        void clear() {
-            amount.clear();
-            sign = 0;
-        }
     }
 
     private static final class Fraction {
@@ -956,7 +951,6 @@ public final class LimbSolver {
                     arithmetic.multiplyFractions(ratio, row.cells[row.pivotColumn], row.cells[j]);
                 }
             }
-            row.entries[column].clear();
             row.cells[column].clear();
         }
 

@@ -9,10 +9,21 @@ import java.util.TreeSet;
 /** The public face of the document, and rule 1 of LANGUAGE.md: nothing else can be seen. */
 public final class FaceTest {
     private static final String[] FACE = {
-        "boolean isRight(int)", "boolean isSolvable()", "int cell(int,int,int,int)",
-        "int determinant(int,int)", "int eliminate(int)", "int meter()", "int modulo(int)", "int most()",
-        "int pivot(int)", "int rank()", "int right(int,int,int)", "int set(int,int,int,int)",
-        "int solution(int,int,int)", "int told(int,int,int,int)", "void size(int)",
+        "boolean isRight(int) throws IndexOutOfBoundsException IllegalStateException",
+        "boolean isSolvable() throws IllegalStateException",
+        "int cell(int,int,int,int) throws IndexOutOfBoundsException IllegalStateException",
+        "int determinant(int,int) throws IndexOutOfBoundsException IllegalStateException",
+        "int eliminate(int) throws IllegalArgumentException",
+        "int meter() throws",
+        "int modulo(int) throws",
+        "int most() throws IllegalStateException",
+        "int pivot(int) throws IndexOutOfBoundsException IllegalStateException",
+        "int rank() throws",
+        "int right(int,int,int) throws IndexOutOfBoundsException IllegalArgumentException",
+        "int set(int,int,int,int) throws IndexOutOfBoundsException IllegalArgumentException",
+        "int solution(int,int,int) throws IndexOutOfBoundsException IllegalStateException",
+        "int told(int,int,int,int) throws IndexOutOfBoundsException",
+        "void size(int) throws IllegalArgumentException",
     };
 
     public static void main(String[] args) {
@@ -43,6 +54,9 @@ public final class FaceTest {
         for (Class<?> inside : LimbSolver.class.getDeclaredClasses()) {
             check.due(inside.getName() + " is static",
                     Boolean.toString(Modifier.isStatic(inside.getModifiers())), "true");
+            for (Method m : inside.getDeclaredMethods()) {
+                check.due("name of " + m.getName() + " inside", Boolean.toString(names.contains(m.getName())), "false");
+            }
         }
         check.finish("FaceTest");
     }
@@ -52,6 +66,10 @@ public final class FaceTest {
         for (int i = 0; i < m.getParameterCount(); i++) {
             text.append(i == 0 ? "" : ",").append(m.getParameterTypes()[i].getName());
         }
-        return text.append(')').toString();
+        text.append(") throws");
+        for (Class<?> thrown : m.getExceptionTypes()) {
+            text.append(' ').append(thrown.getSimpleName());
+        }
+        return text.toString();
     }
 }

@@ -1,7 +1,7 @@
 /** Each promise by its number: ordinary inputs, the edges that the document names, wrong inputs. */
 public final class PromiseTest {
-    private static final int MIN = Integer.MIN_VALUE;
-    private static final int MAX = Integer.MAX_VALUE;
+    private static final int MIN = Make.MIN;
+    private static final int MAX = Make.MAX;
     private static final Check CHECK = new Check();
 
     public static void main(String[] args) {
@@ -24,32 +24,6 @@ public final class PromiseTest {
         CHECK.finish("PromiseTest");
     }
 
-    /** Rows of n cells and a right side, all whole. */
-    private static LimbSolver solver(int[]... rows) {
-        LimbSolver x = new LimbSolver();
-        x.size(rows.length);
-        for (int i = 0; i < rows.length; i++) {
-            for (int j = 0; j < rows.length; j++) {
-                x.set(i, j, rows[i][j], 1);
-            }
-            x.right(i, rows[i][rows.length], 1);
-        }
-        return x;
-    }
-
-    private static int[] row(int... values) {
-        return values;
-    }
-
-    private static long resize(LimbSolver x, int n) {
-        x.size(n);
-        return 0;
-    }
-
-    private static long truth(boolean value) {
-        return value ? 1 : 0;
-    }
-
     private static void promise1NewObject() {
         LimbSolver x = new LimbSolver();
         CHECK.due("1: a new meter", () -> x.meter(), 2);
@@ -61,19 +35,19 @@ public final class PromiseTest {
     }
 
     private static void promise2Size() {
-        LimbSolver x = solver(row(1, 2, 3), row(4, 5, 6));
+        LimbSolver x = Make.solver(Make.row(1, 2, 3), Make.row(4, 5, 6));
         x.eliminate(40000);
-        CHECK.refused("2: size 0", () -> resize(x, 0));
-        CHECK.refused("2: size 7", () -> resize(x, 7));
-        CHECK.refused("2: size -1", () -> resize(x, -1));
-        CHECK.refused("2: size MIN", () -> resize(x, MIN));
-        CHECK.refused("2: size MAX", () -> resize(x, MAX));
+        CHECK.refused("2: size 0", () -> Make.resize(x, 0));
+        CHECK.refused("2: size 7", () -> Make.resize(x, 7));
+        CHECK.refused("2: size -1", () -> Make.resize(x, -1));
+        CHECK.refused("2: size MIN", () -> Make.resize(x, MIN));
+        CHECK.refused("2: size MAX", () -> Make.resize(x, MAX));
         CHECK.due("2: a refused size changes no rank", () -> x.rank(), 2);
         CHECK.due("2: a refused size changes no cell", () -> x.told(1, 0, 1, 0), 4);
         for (int n = 6; n >= 1; n--) {
             int size = n;
             x.right(0, 5, 3);
-            CHECK.due("2: size " + n, () -> resize(x, size), 0);
+            CHECK.due("2: size " + n, () -> Make.resize(x, size), 0);
             CHECK.due("2: all 0 behind size " + n, () -> x.meter(), n * (n + 1));
             CHECK.due("2: last right side of size " + n, () -> x.told(size - 1, size, 0, 0), 0);
             CHECK.outside("2: row beyond size " + n, () -> x.told(size, 0, 0, 0));
@@ -81,7 +55,7 @@ public final class PromiseTest {
             CHECK.due("2: not eliminated behind size " + n, () -> x.rank(), -1);
             CHECK.due("2: rank of size " + n, () -> x.eliminate(40000), 0);
         }
-        resize(x, 1);
+        Make.resize(x, 1);
         CHECK.due("2: the same size, too, is not eliminated", () -> x.rank(), -1);
     }
 
@@ -136,10 +110,10 @@ public final class PromiseTest {
     }
 
     private static void promise5Eliminate() {
-        LimbSolver x = solver(row(70000, 1, 1), row(1, 70000, 1));
+        LimbSolver x = Make.solver(Make.row(70000, 1, 1), Make.row(1, 70000, 1));
         CHECK.due("5: rank", () -> x.eliminate(40000), 2);
         int most = x.most();
-        CHECK.due("5: the cells grow", () -> truth(most > x.meter()), 1);
+        CHECK.due("5: the cells grow", () -> Make.truth(most > x.meter()), 1);
         CHECK.due("5: a cap at the most", () -> x.eliminate(most), 2);
         CHECK.refused("5: cap -1", () -> x.eliminate(-1));
         CHECK.refused("5: cap 40001", () -> x.eliminate(40001));
@@ -157,7 +131,7 @@ public final class PromiseTest {
     }
 
     private static void promise6Rank() {
-        LimbSolver x = solver(row(0, 1, 2, 3), row(0, 2, 4, 6), row(0, 0, 5, 1));
+        LimbSolver x = Make.solver(Make.row(0, 1, 2, 3), Make.row(0, 2, 4, 6), Make.row(0, 0, 5, 1));
         CHECK.due("6: not eliminated", () -> x.rank(), -1);
         x.eliminate(40000);
         CHECK.due("6: rank 2 of 3", () -> x.rank(), 2);
@@ -165,48 +139,38 @@ public final class PromiseTest {
         CHECK.due("6: told anew", () -> x.rank(), -1);
         x.eliminate(40000);
         CHECK.due("6: rank 1 of 3", () -> x.rank(), 1);
-        LimbSolver six = identity(6);
+        LimbSolver six = Make.crossed(6);
         six.eliminate(40000);
         CHECK.due("6: rank 6", () -> six.rank(), 6);
     }
 
-    private static LimbSolver identity(int n) {
-        LimbSolver x = new LimbSolver();
-        x.size(n);
-        for (int i = 0; i < n; i++) {
-            x.set(i, n - 1 - i, 1, 1);
-            x.right(i, i + 1, 1);
-        }
-        return x;
-    }
-
     private static void promise7IsSolvable() {
-        LimbSolver x = solver(row(1, 2, 3), row(2, 4, 6));
-        CHECK.early("7: not eliminated", () -> truth(x.isSolvable()));
+        LimbSolver x = Make.solver(Make.row(1, 2, 3), Make.row(2, 4, 6));
+        CHECK.early("7: not eliminated", () -> Make.truth(x.isSolvable()));
         x.eliminate(40000);
-        CHECK.due("7: twice the same row", () -> truth(x.isSolvable()), 1);
+        CHECK.due("7: twice the same row", () -> Make.truth(x.isSolvable()), 1);
         x.right(1, 7, 1);
-        CHECK.early("7: told anew", () -> truth(x.isSolvable()));
+        CHECK.early("7: told anew", () -> Make.truth(x.isSolvable()));
         x.eliminate(40000);
-        CHECK.due("7: rows that speak against each other", () -> truth(x.isSolvable()), 0);
+        CHECK.due("7: rows that speak against each other", () -> Make.truth(x.isSolvable()), 0);
         x.set(1, 1, 5, 1);
         x.eliminate(40000);
-        CHECK.due("7: full rank", () -> truth(x.isSolvable()), 1);
+        CHECK.due("7: full rank", () -> Make.truth(x.isSolvable()), 1);
         LimbSolver zero = new LimbSolver();
         zero.right(0, 1, 1);
         zero.eliminate(40000);
-        CHECK.due("7: 0 is not 1", () -> truth(zero.isSolvable()), 0);
+        CHECK.due("7: 0 is not 1", () -> Make.truth(zero.isSolvable()), 0);
     }
 
     private static void promise8Most() {
-        LimbSolver x = solver(row(70000, 1, 1), row(1, 70000, 1));
+        LimbSolver x = Make.solver(Make.row(70000, 1, 1), Make.row(1, 70000, 1));
         CHECK.early("8: not eliminated", () -> x.most());
         x.eliminate(40000);
         // 14 at first; behind column 0 17, with 4899999999 by 70000 and 69999 by 70000 below; behind
         // column 1 18, with 70000 by 70001 as the upper right side.
         CHECK.due("8: most", () -> x.most(), 18);
         CHECK.due("8: meter stays", () -> x.meter(), 14);
-        LimbSolver shrinking = solver(row(65536, 65536, 65536), row(65536, 65536, 65536));
+        LimbSolver shrinking = Make.solver(Make.row(65536, 65536, 65536), Make.row(65536, 65536, 65536));
         shrinking.eliminate(40000);
         CHECK.due("8: the first state counts", () -> shrinking.most(), 18);
         LimbSolver zero = new LimbSolver();
@@ -215,7 +179,7 @@ public final class PromiseTest {
     }
 
     private static void promise9Pivot() {
-        LimbSolver x = solver(row(0, 0, 2, 1), row(0, 3, 1, 1), row(0, 6, 2, 2));
+        LimbSolver x = Make.solver(Make.row(0, 0, 2, 1), Make.row(0, 3, 1, 1), Make.row(0, 6, 2, 2));
         CHECK.early("9: not eliminated", () -> x.pivot(0));
         CHECK.outside("9: the index goes first", () -> x.pivot(3));
         x.eliminate(40000);
@@ -230,7 +194,7 @@ public final class PromiseTest {
     }
 
     private static void promise10Solution() {
-        LimbSolver x = solver(row(2, 0, -3), row(0, 65537, 1));
+        LimbSolver x = Make.solver(Make.row(2, 0, -3), Make.row(0, 65537, 1));
         CHECK.early("10: not eliminated", () -> x.solution(0, 0, 0));
         CHECK.outside("10: the index goes first", () -> x.solution(2, 0, 0));
         x.eliminate(40000);
@@ -250,7 +214,7 @@ public final class PromiseTest {
         CHECK.outside("10: column -1", () -> x.solution(-1, 0, 0));
         CHECK.outside("10: part 3", () -> x.solution(0, 3, 0));
         CHECK.outside("10: part -1", () -> x.solution(0, -1, 0));
-        LimbSolver free = solver(row(0, 4, 10), row(0, 2, 5));
+        LimbSolver free = Make.solver(Make.row(0, 4, 10), Make.row(0, 2, 5));
         free.eliminate(40000);
         CHECK.due("10: x without a pivot is 0", () -> free.solution(0, 0, 0), 0);
         CHECK.due("10: it has no limbs", () -> free.solution(0, 1, -1), 0);
@@ -263,7 +227,7 @@ public final class PromiseTest {
     }
 
     private static void promise11Determinant() {
-        LimbSolver x = solver(row(0, 2, 5), row(3, 4, 6));
+        LimbSolver x = Make.solver(Make.row(0, 2, 5), Make.row(3, 4, 6));
         CHECK.early("11: not eliminated", () -> x.determinant(0, 0));
         CHECK.outside("11: the index goes first", () -> x.determinant(3, 0));
         x.eliminate(40000);
@@ -282,16 +246,16 @@ public final class PromiseTest {
         CHECK.due("11: not solvable, yet 0", () -> x.determinant(0, 0), 0);
         CHECK.due("11: 0 has no limbs", () -> x.determinant(1, -1), 0);
         CHECK.due("11: 0 is by 1", () -> x.determinant(2, 0), 1);
-        LimbSolver six = identity(6);
+        LimbSolver six = Make.crossed(6);
         six.eliminate(40000);
         CHECK.due("11: three changes of places", () -> six.determinant(0, 0), -1);
-        LimbSolver five = identity(5);
+        LimbSolver five = Make.crossed(5);
         five.eliminate(40000);
         CHECK.due("11: two changes of places", () -> five.determinant(0, 0), 1);
     }
 
     private static void promise12Cell() {
-        LimbSolver x = solver(row(2, 1, 5), row(4, 5, 11));
+        LimbSolver x = Make.solver(Make.row(2, 1, 5), Make.row(4, 5, 11));
         CHECK.early("12: not eliminated", () -> x.cell(0, 0, 0, 0));
         CHECK.outside("12: the index goes first", () -> x.cell(0, 3, 0, 0));
         x.eliminate(40000);
@@ -306,7 +270,7 @@ public final class PromiseTest {
         CHECK.outside("12: row -1", () -> x.cell(-1, 0, 0, 0));
         CHECK.outside("12: column 3", () -> x.cell(0, 3, 0, 0));
         CHECK.outside("12: part 3", () -> x.cell(0, 0, 3, 0));
-        LimbSolver skipped = solver(row(1, 2, 3, 4), row(2, 4, 7, 9), row(1, 2, 4, 6));
+        LimbSolver skipped = Make.solver(Make.row(1, 2, 3, 4), Make.row(2, 4, 7, 9), Make.row(1, 2, 4, 6));
         skipped.eliminate(40000);
         CHECK.due("12: not solvable, yet a cell", () -> skipped.cell(2, 3, 1, 0), 1);
         CHECK.due("12: a column without a pivot keeps what is above", () -> skipped.cell(0, 1, 1, 0), 2);
@@ -316,7 +280,7 @@ public final class PromiseTest {
     }
 
     private static void promise13Told() {
-        LimbSolver x = solver(row(0, 2, 5), row(3, 4, -6));
+        LimbSolver x = Make.solver(Make.row(0, 2, 5), Make.row(3, 4, -6));
         x.eliminate(40000);
         CHECK.due("13: as told, not as eliminated", () -> x.told(0, 0, 0, 0), 0);
         CHECK.due("13: places as told", () -> x.told(1, 0, 1, 0), 3);
@@ -335,7 +299,7 @@ public final class PromiseTest {
     }
 
     private static void promise14Modulo() {
-        LimbSolver x = solver(row(0, 2, 5), row(3, 4, 6));
+        LimbSolver x = Make.solver(Make.row(0, 2, 5), Make.row(3, 4, 6));
         CHECK.due("14: -6 modulo 7, not eliminated", () -> x.modulo(7), 1);
         CHECK.due("14: -6 modulo 46337", () -> x.modulo(46337), 46331);
         CHECK.due("14: -6 modulo 2", () -> x.modulo(2), 0);
@@ -363,7 +327,7 @@ public final class PromiseTest {
     }
 
     private static void promise15Meter() {
-        LimbSolver x = solver(row(70000, 1, 1), row(1, 70000, 1));
+        LimbSolver x = Make.solver(Make.row(70000, 1, 1), Make.row(1, 70000, 1));
         CHECK.due("15: meter", () -> x.meter(), 14);
         x.eliminate(40000);
         CHECK.due("15: as told, not as eliminated", () -> x.meter(), 14);
@@ -375,22 +339,22 @@ public final class PromiseTest {
     }
 
     private static void promise16IsRight() {
-        LimbSolver x = solver(row(0, 2, 5), row(3, 4, 6));
-        CHECK.early("16: not eliminated", () -> truth(x.isRight(0)));
-        CHECK.outside("16: the index goes first", () -> truth(x.isRight(2)));
+        LimbSolver x = Make.solver(Make.row(0, 2, 5), Make.row(3, 4, 6));
+        CHECK.early("16: not eliminated", () -> Make.truth(x.isRight(0)));
+        CHECK.outside("16: the index goes first", () -> Make.truth(x.isRight(2)));
         x.eliminate(40000);
-        CHECK.due("16: row 0", () -> truth(x.isRight(0)), 1);
-        CHECK.due("16: row 1", () -> truth(x.isRight(1)), 1);
-        CHECK.outside("16: row 2", () -> truth(x.isRight(2)));
-        CHECK.outside("16: row -1", () -> truth(x.isRight(-1)));
+        CHECK.due("16: row 0", () -> Make.truth(x.isRight(0)), 1);
+        CHECK.due("16: row 1", () -> Make.truth(x.isRight(1)), 1);
+        CHECK.outside("16: row 2", () -> Make.truth(x.isRight(2)));
+        CHECK.outside("16: row -1", () -> Make.truth(x.isRight(-1)));
         x.right(1, 9, 2);
-        CHECK.early("16: told anew", () -> truth(x.isRight(0)));
+        CHECK.early("16: told anew", () -> Make.truth(x.isRight(0)));
         x.set(1, 0, 0, 1);
         x.eliminate(40000);
-        CHECK.early("16: not solvable", () -> truth(x.isRight(0)));
-        CHECK.outside("16: not solvable, but the index goes first", () -> truth(x.isRight(-1)));
+        CHECK.early("16: not solvable", () -> Make.truth(x.isRight(0)));
+        CHECK.outside("16: not solvable, but the index goes first", () -> Make.truth(x.isRight(-1)));
         x.right(1, 10, 1);
         x.eliminate(40000);
-        CHECK.due("16: with x without a pivot", () -> truth(x.isRight(1)), 1);
+        CHECK.due("16: with x without a pivot", () -> Make.truth(x.isRight(1)), 1);
     }
 }

@@ -21,7 +21,28 @@ public final class RoomTest {
         System.out.println("a new object takes " + made + " bytes, 500 calls take " + worked);
         CHECK.due("a new object stays below 100000 bytes", () -> made < 100000 ? 1 : 0, 1);
         CHECK.due("calls take no room", () -> worked < 2000 ? 1 : 0, 1);
+        LimbSolver another = new LimbSolver();
+        before = threads.getThreadAllocatedBytes(thread);
+        dearest(another);
+        long dear = threads.getThreadAllocatedBytes(thread) - before;
+        System.out.println("the dearest 512 calls take " + dear);
+        CHECK.due("the dearest calls take no room", () -> dear < 2000 ? 1 : 0, 1);
         CHECK.finish("RoomTest");
+    }
+
+    /** 512 calls, every second one of them an elimination of six rows that were told anew. */
+    private static void dearest(LimbSolver solver) {
+        solver.size(N);
+        for (int i = 0; i < N; i++) {
+            for (int j = 0; j < N; j++) {
+                solver.set(i, j, Integer.MAX_VALUE - 40 * i - j, Integer.MAX_VALUE - 6 * i - 36 * j);
+            }
+            solver.right(i, Integer.MIN_VALUE, Integer.MAX_VALUE - 300 - 2 * i);
+        }
+        for (int calls = 44; calls + 1 <= 512; calls += 2) {
+            solver.right(calls % N, Integer.MIN_VALUE, Integer.MAX_VALUE - 2 * calls);
+            solver.eliminate(40000);
+        }
     }
 
     private static void work(LimbSolver solver) {
@@ -41,7 +62,7 @@ public final class RoomTest {
             solver.told(i, j, 2, 0);
             solver.modulo(46327);
             solver.meter();
-            calls += 10;
+            calls += 11;
         }
     }
 }
