@@ -195,6 +195,14 @@ public final class LimbSolver {
         return which >= 0 && which <= MOST_WHICH;
     }
 
+    // Long.compare is only said to be below 0 or above 0; a SIGN is -1 or 1.
+    private static int signOf(long value) {
+        if (value == 0) {
+            return 0;
+        }
+        return value < 0 ? -1 : 1;
+    }
+
     /** How many of the 31 bits of a word stand unused above its highest one. */
     private static int spareBits(int word) {
         if (word <= 0) {
@@ -371,7 +379,7 @@ public final class LimbSolver {
         }
 
         void assign(long signedNum, long newDen) {
-            sign = Long.compare(signedNum, 0);
+            sign = signOf(signedNum);
             num.assign(Math.abs(signedNum));
             den.assign(newDen);
         }
@@ -774,7 +782,7 @@ public final class LimbSolver {
             for (int column = 0; column <= equations.n && column < entries.length; column++) {
                 long num = equations.numAt(row, column);
                 Entry entry = entries[column];
-                entry.sign = Long.compare(num, 0);
+                entry.sign = signOf(num);
                 part.assign(equations.denAt(row, column));
                 division.divide(scale, part, product, rest);
                 part.assign(Math.abs(num));
